@@ -278,7 +278,8 @@ public final class FoldWalks {
         int changes = 0;
         int lastSign = 0;
         for (long y = -BOUND; y <= BOUND; y++) {
-            int sign = Long.signum(c0 + y * (c1 + y * (c2 + y * c3)));
+            long f = c0 + y * (c1 + y * (c2 + y * c3));
+            int sign = f > 0 ? 1 : f < 0 ? -1 : 0;
             if (sign * lastSign < 0) {
                 changes++;
             }
@@ -394,7 +395,10 @@ public final class FoldWalks {
         if (parts <= 0) {
             return 0;
         }
-        int highest = 31 - Integer.numberOfLeadingZeros(parts);
+        int highest = 0;
+        while (highest < 23 && parts >> highest > 1) {
+            highest++;
+        }
         int fraction = (parts << (23 - highest)) & 0x7fffff;
         return (127 + highest - UNIT_BITS) << 23 | fraction;
     }
@@ -689,17 +693,21 @@ public final class FoldWalks {
 
         int nearestTo(long x, long y) {
             int best = 0;
-            long bestSquares = Long.MAX_VALUE;
-            for (int i = 0; i < size; i++) {
-                long dx = xs[i] - x;
-                long dy = ys[i] - y;
-                long squares = dx * dx + dy * dy;
-                if (squares < bestSquares) {
+            for (int i = 1; i < size; i++) {
+                if (squaresTo(i, x, y) < squaresTo(best, x, y)) {
                     best = i;
-                    bestSquares = squares;
                 }
             }
             return best;
+        }
+
+        private long squaresTo(int place, long x, long y) {
+            if (!has(place)) {
+                return 0;
+            }
+            long dx = xs[place] - x;
+            long dy = ys[place] - y;
+            return dx * dx + dy * dy;
         }
 
         void copyFrom(Walk other) {

@@ -86,7 +86,7 @@ public final class ModelTests {
             return greatest + 1;
         }
         if (dice == 2) {
-            return random.nextBoolean() ? random.nextInt() : random.nextBoolean() ? Integer.MIN_VALUE : Integer.MAX_VALUE;
+            return new int[] {random.nextInt(), Integer.MIN_VALUE, Integer.MAX_VALUE}[random.nextInt(3)];
         }
         return n(least, greatest);
     }

@@ -30,6 +30,8 @@ public final class PromiseTests {
         testStep();
         testStepAtBounds();
         testStepLengths();
+        testStepToOldPlace();
+        testCrossingOfNothing();
         testFolds();
         testDrop();
         testSet();
@@ -45,6 +47,7 @@ public final class PromiseTests {
         testFault();
         testRead();
         testErrorsChangeNothing();
+        testFullRows();
         System.out.println(wrong == 0 ? "all promises hold" : wrong + " answers are not as due");
         if (wrong != 0) {
             System.exit(1);
@@ -418,6 +421,7 @@ public final class PromiseTests {
         dueOneLength("xxx-xy", -51, -37, 64, 4, 64);
         dueOneLength("xxx-xy", -60, -13, 64, 5, 32);
         dueOneLength("y", 0, 0, 1, 1, 2);
+        dueOneLength("xx+yy-1", 300, -20, 16, 2, 32);
         w = of("5xxy-xyy-4xxx-4xxx");
         w.set(0, 1);
         w.set(2, 20);
@@ -437,6 +441,50 @@ public final class PromiseTests {
         int got = w.placeOf(0, 1, 2);
         due("rounds", got, rounds);
         due("length after " + got + " rounds", w.walkOf(0, 2), length);
+    }
+
+    private static void testStepToOldPlace() {
+        part = "promise 9, old place";
+        // 45 degrees: a length of 1 moves by 0 in x and in y.
+        FoldWalks w = of("x+y");
+        w.set(0, 1);
+        w.begin(0, 0, 1);
+        due("step(0, 1)", w.step(0, 1), 0);
+        dueWalk(w, 0, new int[] {1, 1, 0, 1});
+        // Only x, or only y, changes.
+        w = of("y");
+        w.set(0, 1);
+        w.begin(7, 0, 1);
+        due("step(0, 1) along x", w.step(0, 1), 1);
+        w = of("x");
+        w.set(0, 1);
+        w.begin(0, 7, 1);
+        due("step(0, 1) along y", w.step(0, 1), 1);
+        duePlace(w, 0, 1, new int[] {0, 8, 1, 0});
+    }
+
+    private static void testCrossingOfNothing() {
+        part = "promise 9, a product of 0";
+        FoldWalks w = of("2xyy+xxy");
+        w.set(0, 3);
+        due("begin(-5, 10, 1)", w.begin(-5, 10, 1), 0);
+        due("step(0, 1)", w.step(0, 1), 1);
+        long dx = w.placeOf(0, 1, 0) - w.placeOf(0, 0, 0);
+        long dy = w.placeOf(0, 1, 1) - w.placeOf(0, 0, 1);
+        long gx = w.value(w.placeOf(0, 1, 0), w.placeOf(0, 1, 1), 1) - SHIFT;
+        long gy = w.value(w.placeOf(0, 1, 0), w.placeOf(0, 1, 1), 2) - SHIFT;
+        due("Gx times the change of y less Gy times that of x", gx * dy - gy * dx, 0);
+        due("placeOf(0, 1, 3)", w.placeOf(0, 1, 3), 0);
+        due("walkOf(0, 1)", w.walkOf(0, 1), 1);
+        // The branch comes back to the crossing (21, 0), where Gx is 0, and b is 0.
+        w = of("xy+xyy");
+        w.set(0, 3);
+        due("begin(-28, -12, 1)", w.begin(-28, -12, 1), 0);
+        due("step(0, 4)", w.step(0, 4), 4);
+        duePlace(w, 0, 4, new int[] {21, 0, 1, 2});
+        due("branch(0, 4, -1)", w.branch(0, 4, -1), 1);
+        duePlace(w, 1, 0, new int[] {21, 0});
+        due("walkOf(1, 1)", w.walkOf(1, 1), 1);
     }
 
     private static void testFolds() {
@@ -594,6 +642,10 @@ public final class PromiseTests {
         due("meets(1)", w.meets(1), 2);
         w = of("y-4");
         due("meets(0), 0 at the last place", w.meets(0), 0);
+        w = of("y+x-4");
+        due("meets(1), between the last two places", w.meets(1), 1);
+        w = of("y+x+4");
+        due("meets(-1), between the first two places", w.meets(-1), 1);
         w = of("2y-5-2");
         due("meets(0), between places", w.meets(0), 1);
         w = of("xy");
@@ -637,15 +689,26 @@ public final class PromiseTests {
         w.begin(1000, 0, 1);
         w.step(0, 3);
         due("nearest(0, 1024, 1024)", w.nearest(0, 1024, 1024), 0);
+        w.begin(0, 0, 1);
+        due("nearest(1, 9, 9) of one place", w.nearest(1, 9, 9), 0);
         due("nearest(0, -1024, -1024)", w.nearest(0, -1024, -1024), 3);
         due("nearest(0, 967, 0)", w.nearest(0, 967, 0), 2);
         due("nearest(0, 969, 500)", w.nearest(0, 969, 500), 1);
         due("nearest(0, 968, 5), of two the first", w.nearest(0, 968, 5), 1);
-        int[][] bad = {{1, 0, 0}, {-1, 0, 0}, {0, 1025, 0}, {0, -1025, 0}, {0, 0, 1025}, {0, 0, -1025},
+        int[][] bad = {{2, 0, 0}, {-1, 0, 0}, {0, 1025, 0}, {0, -1025, 0}, {0, 0, 1025}, {0, 0, -1025},
             {0, FAR[0], 0}, {0, 0, FAR[1]}};
         for (int[] b : bad) {
             due("nearest of wrong arguments", w.nearest(b[0], b[1], b[2]), INVALID);
         }
+        // The places are (0, 0), (-11, 11), (-33, 33).
+        w = of("x+y");
+        w.begin(0, 0, 1);
+        w.step(0, 2);
+        due("nearest(0, -10, 40)", w.nearest(0, -10, 40), 2);
+        due("nearest(0, 10, -40)", w.nearest(0, 10, -40), 0);
+        due("nearest(0, -30, 5)", w.nearest(0, -30, 5), 1);
+        due("nearest(0, -5, 5)", w.nearest(0, -5, 5), 0);
+        due("nearest(0, -6, 6)", w.nearest(0, -6, 6), 1);
     }
 
     private static void testUndo() {
@@ -672,7 +735,12 @@ public final class PromiseTests {
         due("step(0, 4) again", w.step(0, 4), 4);
         duePlace(w, 0, 3, new int[] {12, 0, 1, 2});
         w.drop(0);
+        w.begin(77, 0, -1);
+        due("undo() of begin", w.undo(), 2);
+        due("count(1)", w.count(1), 0);
         due("undo() of drop", w.undo(), 1);
+        duePlace(w, 0, 0, new int[] {-100, 0, 1, 0});
+        duePlace(w, 0, 3, new int[] {12, 0, 1, 2});
         dueWalk(w, 0, new int[] {5, -1, 64, 0, 0, 1});
         due("read()", w.read(), 2);
         due("undo() of read", w.undo(), 1);
@@ -806,5 +874,39 @@ public final class PromiseTests {
         due("count(2)", w.count(2), 5);
         due("undo()", w.undo(), states - 1);
         due("count(2)", w.count(2), 1);
+    }
+
+    /** Six terms, five full walks and five states in use at once. */
+    private static void testFullRows() {
+        part = "full rows";
+        FoldWalks w = of("5y-y-y-y-y+y");
+        due("meets(0) with six terms", w.meets(0), 1);
+        due("value(0, 1, 2) with six terms", w.value(0, 1, 2), SHIFT + 2 * 65536);
+        for (int walk = 0; walk < 5; walk++) {
+            due("begin(1000, 0, 1)", w.begin(1000, 0, 1), walk);
+            w.set(1, 20);
+            due("step(" + walk + ", 40)", w.step(walk, 40), 39);
+            dueWalk(w, walk, new int[] {40, 1, 20, 2, 0, 0, NOT_FOUND, NOT_FOUND, 0});
+            due("nearest(" + walk + ", -1024, 0)", w.nearest(walk, -1024, 0), 39);
+            due("lengthBits(" + walk + ")", w.lengthBits(walk), Float.floatToIntBits((16 + 38 * 20) / 256f));
+            due("placeOf(" + walk + ", 39, 0)", w.placeOf(walk, 39, 0), 1000 - 16 - 38 * 20);
+        }
+        int[] wants = {6, 5, 200, 0, 0, 4, 12};
+        for (int what = 0; what < wants.length; what++) {
+            due("count(" + what + ")", w.count(what), wants[what]);
+        }
+        due("dropTerm(5)", w.dropTerm(5), 1);
+        due("undo()", w.undo(), 3);
+        for (int what = 0; what < 5; what++) {
+            due("count(" + what + ")", w.count(what), wants[what]);
+        }
+        due("drop(4)", w.drop(4), 4);
+        due("undo()", w.undo(), 3);
+        due("placeOf(4, 39, 0)", w.placeOf(4, 39, 0), 1000 - 16 - 38 * 20);
+        for (int left = 2; left >= 0; left--) {
+            due("undo()", w.undo(), left);
+        }
+        due("count(1)", w.count(1), 4);
+        due("count(2)", w.count(2), 160);
     }
 }
