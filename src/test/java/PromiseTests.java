@@ -5,17 +5,7 @@ import java.lang.reflect.Modifier;
 import java.util.TreeSet;
 
 /** Promise by promise: ordinary inputs, the edges that the document names, and wrong inputs. */
-public final class PromiseTests {
-    private static final int INVALID = -1000001;
-    private static final int NOT_POSSIBLE = -1000002;
-    private static final int LIMIT = -1000003;
-    private static final int NOT_FOUND = -1000004;
-    private static final long SHIFT = 1000000000000L;
-    private static final int[] FAR = {Integer.MIN_VALUE, Integer.MAX_VALUE};
-
-    private static int wrong;
-    private static String part = "";
-
+public final class PromiseTests extends Due {
     public static void main(String[] args) {
         testFace();
         testNewObject();
@@ -48,58 +38,7 @@ public final class PromiseTests {
         testRead();
         testErrorsChangeNothing();
         testFullRows();
-        System.out.println(wrong == 0 ? "all promises hold" : wrong + " answers are not as due");
-        if (wrong != 0) {
-            System.exit(1);
-        }
-    }
-
-    private static void due(String call, long got, long want) {
-        if (got != want) {
-            wrong++;
-            System.out.println(part + ": " + call + " answered " + got + ", due is " + want);
-        }
-    }
-
-    private static void typeAll(FoldWalks w, String text) {
-        for (char c : text.toCharArray()) {
-            w.type(c);
-        }
-    }
-
-    private static FoldWalks of(String function) {
-        FoldWalks w = new FoldWalks();
-        typeAll(w, function);
-        if (w.read() < 1) {
-            due("read of " + function, 0, 1);
-        }
-        return w;
-    }
-
-    private static void dueWalk(FoldWalks w, int walk, int[] wants) {
-        for (int what = 0; what < wants.length; what++) {
-            due("walkOf(" + walk + ", " + what + ")", w.walkOf(walk, what), wants[what]);
-        }
-    }
-
-    private static void duePlace(FoldWalks w, int walk, int place, int[] wants) {
-        for (int what = 0; what < wants.length; what++) {
-            due("placeOf(" + walk + ", " + place + ", " + what + ")", w.placeOf(walk, place, what), wants[what]);
-        }
-    }
-
-    private static void dueTerm(FoldWalks w, int index, int[] wants) {
-        for (int what = 0; what < wants.length; what++) {
-            due("termOf(" + index + ", " + what + ")", w.termOf(index, what), wants[what]);
-        }
-    }
-
-    /** x times y, walked along the line y = 0 through the crossing that lies at 0. */
-    private static FoldWalks crossed() {
-        FoldWalks w = of("xy");
-        due("begin(-100, 0, 1)", w.begin(-100, 0, 1), 0);
-        due("step(0, 4)", w.step(0, 4), 4);
-        return w;
+        end("all promises hold");
     }
 
     private static void testFace() {
@@ -173,10 +112,10 @@ public final class PromiseTests {
         due("walks after term", w.count(1), 0);
         due("term(1, 0, 0) as the seventh", w.term(1, 0, 0), LIMIT);
         due("term(0, 0, 0) as the seventh", w.term(0, 0, 0), INVALID);
-        dueTerm(w, 0, new int[] {5, 3, 0});
-        dueTerm(w, 3, new int[] {2, 1, 2});
-        dueTerm(w, 4, new int[] {2, 1, 2});
-        dueTerm(w, 5, new int[] {-1, 0, 0});
+        dueTerm(w, 0, 5, 3, 0);
+        dueTerm(w, 3, 2, 1, 2);
+        dueTerm(w, 4, 2, 1, 2);
+        dueTerm(w, 5, -1, 0, 0);
     }
 
     private static void testDropTerm() {
@@ -191,8 +130,8 @@ public final class PromiseTests {
         due("dropTerm(1)", w.dropTerm(1), -3);
         due("walks after dropTerm", w.count(1), 0);
         due("terms left", w.count(0), 2);
-        dueTerm(w, 0, new int[] {2, 1, 0});
-        dueTerm(w, 1, new int[] {4, 1, 1});
+        dueTerm(w, 0, 2, 1, 0);
+        dueTerm(w, 1, 4, 1, 1);
         due("dropTerm(0)", w.dropTerm(0), 2);
         due("dropTerm(0)", w.dropTerm(0), 4);
         due("dropTerm(0) of none", w.dropTerm(0), NOT_POSSIBLE);
@@ -201,7 +140,7 @@ public final class PromiseTests {
     private static void testTermOf() {
         part = "promise 4";
         FoldWalks w = of("-4xyy");
-        dueTerm(w, 0, new int[] {-4, 1, 2, INVALID});
+        dueTerm(w, 0, -4, 1, 2, INVALID);
         due("termOf(0, -1)", w.termOf(0, -1), INVALID);
         due("termOf(-1, 0)", w.termOf(-1, 0), INVALID);
         due("termOf(1, 0)", w.termOf(1, 0), NOT_FOUND);
@@ -267,12 +206,12 @@ public final class PromiseTests {
         part = "promise 7";
         FoldWalks w = of("y");
         due("begin(-1024, 1024, 1)", w.begin(-1024, 1024, 1), 0);
-        duePlace(w, 0, 0, new int[] {-1024, 0, 2, 0});
-        dueWalk(w, 0, new int[] {1, 1, 16, 0, 0, 0, NOT_FOUND, NOT_FOUND, 0});
+        duePlace(w, 0, 0, -1024, 0, 2, 0);
+        dueWalk(w, 0, 1, 1, 16, 0, 0, 0, NOT_FOUND, NOT_FOUND, 0);
         w.set(0, 40);
         due("begin(5, 0, -1)", w.begin(5, 0, -1), 1);
-        duePlace(w, 1, 0, new int[] {5, 0, 1, 0});
-        dueWalk(w, 1, new int[] {1, -1, 40, 0, 0, 0, NOT_FOUND, NOT_FOUND, 0});
+        duePlace(w, 1, 0, 5, 0, 1, 0);
+        dueWalk(w, 1, 1, -1, 40, 0, 0, 0, NOT_FOUND, NOT_FOUND, 0);
         int[][] bad = {{1025, 0, 1}, {-1025, 0, 1}, {0, 1025, 1}, {0, -1025, 1}, {0, 0, 0}, {0, 0, 2}, {0, 0, -2},
             {0, 0, FAR[0]}, {FAR[1], 0, 1}};
         for (int[] b : bad) {
@@ -294,9 +233,9 @@ public final class PromiseTests {
     private static void testBranch() {
         part = "promise 8";
         FoldWalks w = crossed();
-        duePlace(w, 0, 2, new int[] {-52, 0, 1, 0});
-        duePlace(w, 0, 3, new int[] {12, 0, 1, 2});
-        duePlace(w, 0, 4, new int[] {76, 0, 1, 0});
+        duePlace(w, 0, 2, -52, 0, 1, 0);
+        duePlace(w, 0, 3, 12, 0, 1, 2);
+        duePlace(w, 0, 4, 76, 0, 1, 0);
         int[][] bad = {{-1, 3, 1}, {1, 3, 1}, {0, -1, 1}, {0, 5, 1}, {0, 3, 0}, {0, 3, 2}, {0, 3, -2}, {0, 0, 3},
             {FAR[1], 3, 1}, {0, FAR[1], 1}, {0, FAR[0], 1}};
         for (int[] b : bad) {
@@ -306,11 +245,11 @@ public final class PromiseTests {
         due("branch(0, 2, 1)", w.branch(0, 2, 1), NOT_POSSIBLE);
         due("branch(0, 4, 1)", w.branch(0, 4, 1), NOT_POSSIBLE);
         due("branch(0, 3, 1)", w.branch(0, 3, 1), 1);
-        duePlace(w, 1, 0, new int[] {1, 10, 3, 0});
-        dueWalk(w, 1, new int[] {1, 1, 16, 0, 0, 0, 0, 3, 0});
+        duePlace(w, 1, 0, 1, 10, 3, 0);
+        dueWalk(w, 1, 1, 1, 16, 0, 0, 0, 0, 3, 0);
         due("branch(0, 3, -1)", w.branch(0, 3, -1), 2);
-        duePlace(w, 2, 0, new int[] {1, -10, 3, 0});
-        dueWalk(w, 2, new int[] {1, 1, 16, 0, 0, 0, 0, 3, 0});
+        duePlace(w, 2, 0, 1, -10, 3, 0);
+        dueWalk(w, 2, 1, 1, 16, 0, 0, 0, 0, 3, 0);
         // The move is 16 times (-256, 2560) by 2572, which is (-1, 15).
         due("step(1, 1)", w.step(1, 1), 1);
         due("placeOf(1, 1, 1)", w.placeOf(1, 1, 1), 25);
@@ -332,9 +271,9 @@ public final class PromiseTests {
         FoldWalks w = of("-xy");
         due("begin(-100, 0, -1)", w.begin(-100, 0, -1), 0);
         due("step(0, 3)", w.step(0, 3), 3);
-        dueWalk(w, 0, new int[] {4, 1, 64, 0, 0, 1});
+        dueWalk(w, 0, 4, 1, 64, 0, 0, 1);
         due("branch(0, 3, 1)", w.branch(0, 3, 1), 1);
-        duePlace(w, 1, 0, new int[] {1, 10, 3, 0});
+        duePlace(w, 1, 0, 1, 10, 3, 0);
         due("walkOf(1, 1)", w.walkOf(1, 1), -1);
         due("branch(0, 3, -1)", w.branch(0, 3, -1), 2);
         due("walkOf(2, 1)", w.walkOf(2, 1), -1);
@@ -342,13 +281,13 @@ public final class PromiseTests {
         w = of("xy");
         due("begin(0, 100, -1)", w.begin(0, 100, -1), 0);
         due("step(0, 3)", w.step(0, 3), 3);
-        duePlace(w, 0, 3, new int[] {0, -12, 1, 2});
-        dueWalk(w, 0, new int[] {4, 1, 64, 0, 0, 1});
+        duePlace(w, 0, 3, 0, -12, 1, 2);
+        dueWalk(w, 0, 4, 1, 64, 0, 0, 1);
         due("branch(0, 3, 1)", w.branch(0, 3, 1), 1);
-        duePlace(w, 1, 0, new int[] {10, -1, 3, 0});
+        duePlace(w, 1, 0, 10, -1, 3, 0);
         due("walkOf(1, 1)", w.walkOf(1, 1), -1);
         due("branch(0, 3, -1)", w.branch(0, 3, -1), 2);
-        duePlace(w, 2, 0, new int[] {-10, -1, 3, 0});
+        duePlace(w, 2, 0, -10, -1, 3, 0);
         due("walkOf(2, 1)", w.walkOf(2, 1), -1);
     }
 
@@ -361,10 +300,10 @@ public final class PromiseTests {
             due("step of wrong arguments", w.step(b[0], b[1]), INVALID);
         }
         due("step(0, 3)", w.step(0, 3), 3);
-        duePlace(w, 0, 1, new int[] {984, 0, 1, 0});
-        duePlace(w, 0, 2, new int[] {952, 0, 1, 0});
-        duePlace(w, 0, 3, new int[] {888, 0, 1, 0});
-        dueWalk(w, 0, new int[] {4, 1, 64, 0, 0, 0});
+        duePlace(w, 0, 1, 984, 0, 1, 0);
+        duePlace(w, 0, 2, 952, 0, 1, 0);
+        duePlace(w, 0, 3, 888, 0, 1, 0);
+        dueWalk(w, 0, 4, 1, 64, 0, 0, 0);
         w.set(1, 20);
         due("step(0, 1) with a length above setting 1", w.step(0, 1), 1);
         due("placeOf(0, 4, 0)", w.placeOf(0, 4, 0), 824);
@@ -388,20 +327,20 @@ public final class PromiseTests {
         due("walkOf(0, 2)", w.walkOf(0, 2), 32);
         // 32 and 16 lead beyond -1024, 8 just to it.
         due("step(0, 1)", w.step(0, 1), 1);
-        dueWalk(w, 0, new int[] {3, 1, 16, 0});
+        dueWalk(w, 0, 3, 1, 16, 0);
         due("placeOf(0, 2, 0)", w.placeOf(0, 2, 0), -1024);
         due("step(0, 5) at the bound", w.step(0, 5), 0);
-        dueWalk(w, 0, new int[] {3, 1, 0, 1});
+        dueWalk(w, 0, 3, 1, 0, 1);
         due("count(5) after a step that added none", w.count(5), 4);
         due("step(0, 1) of the stuck walk", w.step(0, 1), NOT_POSSIBLE);
         due("undo() of the step that added none", w.undo(), 3);
-        dueWalk(w, 0, new int[] {3, 1, 16, 0});
+        dueWalk(w, 0, 3, 1, 16, 0);
         // From (32, 0) the length 32 would lead to (0, 0), where G is 0; 16 does not.
         w = of("xy");
         w.begin(48, 0, 1);
         due("step(0, 2)", w.step(0, 2), 2);
-        duePlace(w, 0, 1, new int[] {32, 0, 1, 0});
-        duePlace(w, 0, 2, new int[] {16, 0, 1, 0});
+        duePlace(w, 0, 1, 32, 0, 1, 0);
+        duePlace(w, 0, 2, 16, 0, 1, 0);
         due("length halved at (0, 0), then doubled", w.walkOf(0, 2), 32);
     }
 
@@ -450,7 +389,7 @@ public final class PromiseTests {
         w.set(0, 1);
         w.begin(0, 0, 1);
         due("step(0, 1)", w.step(0, 1), 0);
-        dueWalk(w, 0, new int[] {1, 1, 0, 1});
+        dueWalk(w, 0, 1, 1, 0, 1);
         // Only x, or only y, changes.
         w = of("y");
         w.set(0, 1);
@@ -460,7 +399,7 @@ public final class PromiseTests {
         w.set(0, 1);
         w.begin(0, 7, 1);
         due("step(0, 1) along y", w.step(0, 1), 1);
-        duePlace(w, 0, 1, new int[] {0, 8, 1, 0});
+        duePlace(w, 0, 1, 0, 8, 1, 0);
     }
 
     private static void testCrossingOfNothing() {
@@ -481,9 +420,9 @@ public final class PromiseTests {
         w.set(0, 3);
         due("begin(-28, -12, 1)", w.begin(-28, -12, 1), 0);
         due("step(0, 4)", w.step(0, 4), 4);
-        duePlace(w, 0, 4, new int[] {21, 0, 1, 2});
+        duePlace(w, 0, 4, 21, 0, 1, 2);
         due("branch(0, 4, -1)", w.branch(0, 4, -1), 1);
-        duePlace(w, 1, 0, new int[] {21, 0});
+        duePlace(w, 1, 0, 21, 0);
         due("walkOf(1, 1)", w.walkOf(1, 1), 1);
     }
 
@@ -522,11 +461,11 @@ public final class PromiseTests {
         due("drop(-1)", w.drop(-1), INVALID);
         due("drop(max)", w.drop(FAR[1]), INVALID);
         due("drop(0)", w.drop(0), 3);
-        dueWalk(w, 0, new int[] {4, -1, 64, 0, 0, 1, NOT_FOUND, NOT_FOUND, 1});
-        dueWalk(w, 1, new int[] {1, 1, 16, 0, 0, 0, 0, 3, 0});
-        dueWalk(w, 2, new int[] {1, 1, 16, 0, 0, 0, NOT_FOUND, NOT_FOUND, 0});
-        duePlace(w, 1, 0, new int[] {1, -10, 3, 0});
-        duePlace(w, 2, 0, new int[] {9, 0, 1, 0});
+        dueWalk(w, 0, 4, -1, 64, 0, 0, 1, NOT_FOUND, NOT_FOUND, 1);
+        dueWalk(w, 1, 1, 1, 16, 0, 0, 0, 0, 3, 0);
+        dueWalk(w, 2, 1, 1, 16, 0, 0, 0, NOT_FOUND, NOT_FOUND, 0);
+        duePlace(w, 1, 0, 1, -10, 3, 0);
+        duePlace(w, 2, 0, 9, 0, 1, 0);
         due("drop(1)", w.drop(1), 2);
         due("walkOf(0, 8)", w.walkOf(0, 8), 0);
         due("drop(1)", w.drop(1), 1);
@@ -580,7 +519,7 @@ public final class PromiseTests {
     private static void testWalkOf() {
         part = "promise 12";
         FoldWalks w = crossed();
-        dueWalk(w, 0, new int[] {5, -1, 64, 0, 0, 1, NOT_FOUND, NOT_FOUND, 0, INVALID});
+        dueWalk(w, 0, 5, -1, 64, 0, 0, 1, NOT_FOUND, NOT_FOUND, 0, INVALID);
         due("walkOf(0, -1)", w.walkOf(0, -1), INVALID);
         due("walkOf(-1, 0)", w.walkOf(-1, 0), INVALID);
         due("walkOf(1, 6)", w.walkOf(1, 6), INVALID);
@@ -594,8 +533,8 @@ public final class PromiseTests {
     private static void testPlaceOf() {
         part = "promise 13";
         FoldWalks w = crossed();
-        duePlace(w, 0, 0, new int[] {-100, 0, 1, 0, INVALID});
-        duePlace(w, 0, 3, new int[] {12, 0, 1, 2});
+        duePlace(w, 0, 0, -100, 0, 1, 0, INVALID);
+        duePlace(w, 0, 3, 12, 0, 1, 2);
         due("placeOf(0, 5, 0)", w.placeOf(0, 5, 0), NOT_FOUND);
         due("placeOf(0, 40, 0)", w.placeOf(0, 40, 0), NOT_FOUND);
         due("placeOf(0, max, 3)", w.placeOf(0, FAR[1], 3), NOT_FOUND);
@@ -678,8 +617,8 @@ public final class PromiseTests {
         w = of("x+y");
         w.begin(0, 0, 1);
         due("step(0, 2)", w.step(0, 2), 2);
-        duePlace(w, 0, 1, new int[] {-11, 11});
-        duePlace(w, 0, 2, new int[] {-33, 33});
+        duePlace(w, 0, 1, -11, 11);
+        duePlace(w, 0, 2, -33, 33);
         due("lengthBits(0)", w.lengthBits(0), Float.floatToIntBits(46f / 256f));
     }
 
@@ -722,7 +661,7 @@ public final class PromiseTests {
         typeAll(w, "+1");
         due("undo() of dropTerm", w.undo(), 3);
         due("walks are back", w.count(1), 2);
-        dueTerm(w, 0, new int[] {1, 1, 1});
+        dueTerm(w, 0, 1, 1, 1);
         due("the text stays", w.count(6), 4);
         due("undo() of branch", w.undo(), 2);
         due("count(1)", w.count(1), 1);
@@ -730,18 +669,18 @@ public final class PromiseTests {
         due("undo() of set", w.undo(), 1);
         due("count(10)", w.count(10), 16);
         due("undo() of step", w.undo(), 0);
-        dueWalk(w, 0, new int[] {1, 1, 16, 0, 0, 0});
+        dueWalk(w, 0, 1, 1, 16, 0, 0, 0);
         due("undo() of an empty history", w.undo(), NOT_POSSIBLE);
         due("step(0, 4) again", w.step(0, 4), 4);
-        duePlace(w, 0, 3, new int[] {12, 0, 1, 2});
+        duePlace(w, 0, 3, 12, 0, 1, 2);
         w.drop(0);
         w.begin(77, 0, -1);
         due("undo() of begin", w.undo(), 2);
         due("count(1)", w.count(1), 0);
         due("undo() of drop", w.undo(), 1);
-        duePlace(w, 0, 0, new int[] {-100, 0, 1, 0});
-        duePlace(w, 0, 3, new int[] {12, 0, 1, 2});
-        dueWalk(w, 0, new int[] {5, -1, 64, 0, 0, 1});
+        duePlace(w, 0, 0, -100, 0, 1, 0);
+        duePlace(w, 0, 3, 12, 0, 1, 2);
+        dueWalk(w, 0, 5, -1, 64, 0, 0, 1);
         due("read()", w.read(), 2);
         due("undo() of read", w.undo(), 1);
         due("count(0)", w.count(0), 1);
@@ -832,12 +771,12 @@ public final class PromiseTests {
         w.term(5, 0, 0);
         typeAll(w, "-xyy+3-5yyy+x-2xx-y");
         due("read()", w.read(), 6);
-        dueTerm(w, 0, new int[] {-1, 1, 2});
-        dueTerm(w, 1, new int[] {3, 0, 0});
-        dueTerm(w, 2, new int[] {-5, 0, 3});
-        dueTerm(w, 3, new int[] {1, 1, 0});
-        dueTerm(w, 4, new int[] {-2, 2, 0});
-        dueTerm(w, 5, new int[] {-1, 0, 1});
+        dueTerm(w, 0, -1, 1, 2);
+        dueTerm(w, 1, 3, 0, 0);
+        dueTerm(w, 2, -5, 0, 3);
+        dueTerm(w, 3, 1, 1, 0);
+        dueTerm(w, 4, -2, 2, 0);
+        dueTerm(w, 5, -1, 0, 1);
         due("the text stays", w.count(6), 19);
         due("count(5)", w.count(5), 2);
         due("read() again", w.read(), 6);
@@ -848,7 +787,7 @@ public final class PromiseTests {
         typeAll(w, "y");
         w.read();
         due("terms that are less", w.count(0), 1);
-        dueTerm(w, 0, new int[] {1, 0, 1});
+        dueTerm(w, 0, 1, 0, 1);
         w.begin(0, 0, 1);
         w.read();
         due("walks after read", w.count(1), 0);
@@ -886,7 +825,7 @@ public final class PromiseTests {
             due("begin(1000, 0, 1)", w.begin(1000, 0, 1), walk);
             w.set(1, 20);
             due("step(" + walk + ", 40)", w.step(walk, 40), 39);
-            dueWalk(w, walk, new int[] {40, 1, 20, 2, 0, 0, NOT_FOUND, NOT_FOUND, 0});
+            dueWalk(w, walk, 40, 1, 20, 2, 0, 0, NOT_FOUND, NOT_FOUND, 0);
             due("nearest(" + walk + ", -1024, 0)", w.nearest(walk, -1024, 0), 39);
             due("lengthBits(" + walk + ")", w.lengthBits(walk), Float.floatToIntBits((16 + 38 * 20) / 256f));
             due("placeOf(" + walk + ", 39, 0)", w.placeOf(walk, 39, 0), 1000 - 16 - 38 * 20);
