@@ -21,7 +21,6 @@ public final class PromiseTests extends Due {
         testStepAtBounds();
         testStepLengths();
         testStepToOldPlace();
-        testCrossingOfNothing();
         testFolds();
         testDrop();
         testSet();
@@ -400,30 +399,6 @@ public final class PromiseTests extends Due {
         w.begin(0, 7, 1);
         due("step(0, 1) along y", w.step(0, 1), 1);
         duePlace(w, 0, 1, 0, 8, 1, 0);
-    }
-
-    private static void testCrossingOfNothing() {
-        part = "promise 9, a product of 0";
-        FoldWalks w = of("2xyy+xxy");
-        w.set(0, 3);
-        due("begin(-5, 10, 1)", w.begin(-5, 10, 1), 0);
-        due("step(0, 1)", w.step(0, 1), 1);
-        long dx = w.placeOf(0, 1, 0) - w.placeOf(0, 0, 0);
-        long dy = w.placeOf(0, 1, 1) - w.placeOf(0, 0, 1);
-        long gx = w.value(w.placeOf(0, 1, 0), w.placeOf(0, 1, 1), 1) - SHIFT;
-        long gy = w.value(w.placeOf(0, 1, 0), w.placeOf(0, 1, 1), 2) - SHIFT;
-        due("Gx times the change of y less Gy times that of x", gx * dy - gy * dx, 0);
-        due("placeOf(0, 1, 3)", w.placeOf(0, 1, 3), 0);
-        due("walkOf(0, 1)", w.walkOf(0, 1), 1);
-        // The branch comes back to the crossing (21, 0), where Gx is 0, and b is 0.
-        w = of("xy+xyy");
-        w.set(0, 3);
-        due("begin(-28, -12, 1)", w.begin(-28, -12, 1), 0);
-        due("step(0, 4)", w.step(0, 4), 4);
-        duePlace(w, 0, 4, 21, 0, 1, 2);
-        due("branch(0, 4, -1)", w.branch(0, 4, -1), 1);
-        duePlace(w, 1, 0, 21, 0);
-        due("walkOf(1, 1)", w.walkOf(1, 1), 1);
     }
 
     private static void testFolds() {
