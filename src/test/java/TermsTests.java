@@ -23,6 +23,7 @@ public final class TermsTests extends Due {
         testBackToOldPlace();
         testHalving();
         testStuck();
+        testRootOfOne();
         testCrossings();
         testFolds();
         testLengthsAfterRounds();
@@ -368,6 +369,25 @@ public final class TermsTests extends Due {
         dueWalk(w, 0, 3, -1, 16, 0);
         due("step(0, 1), which makes it stuck", w.step(0, 1), 0);
         due("walkOf(0, 3)", w.walkOf(0, 3), 1);
+    }
+
+    private static void testRootOfOne() {
+        part = "divided by the root, which is just 1";
+        FoldWalks w = begun("xxy", 3, 64, 1, 0, -1);
+        due("Gx at (1, 0)", w.value(1, 0, 1), SHIFT);
+        due("Gy at (1, 0)", w.value(1, 0, 2), SHIFT + 1);
+        due("step(0, 1)", w.step(0, 1), 1);
+        duePlace(w, 0, 1, 4, 0, 1, 0);
+        // The changes are (0, 1).
+        w = begun("2xxy+xxx", 1, 64, -1, 0, 1);
+        due("step(0, 1)", w.step(0, 1), 1);
+        dueBranch(w, 3, 1, 1, -4, 1, 1, 1);
+        dueBranch(w, 3, 1, -1, 2, 1, 1, -1);
+        // The changes are (1, -1): the root of 2 is 1.
+        w = begun("3yyy-xxy", 2, 64, -2, 1, -1);
+        due("step(0, 1)", w.step(0, 1), 1);
+        dueBranch(w, 3, 1, 1, 2, 3, 1, -1);
+        dueBranch(w, 3, 1, -1, -4, -3, 1, 1);
     }
 
     /** Place 0, and what the first step makes: its place, the kind of it, and the sign then. */
